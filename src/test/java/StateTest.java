@@ -31,6 +31,7 @@ public final class StateTest {
         promise20Drip();
         promise29Image();
         promise30Back();
+        promise30BackToAll();
         promise31About();
         CHECK.close("StateTest");
     }
@@ -112,6 +113,8 @@ public final class StateTest {
         CHECK.due("4: seed -1", x.seed(-1), false);
         CHECK.due("4: seed 10000", x.seed(10000), false);
         due("4: X stays", x.about(2), 40001);
+        CHECK.due("4: seed 0", x.seed(0), true);
+        due("4: X is 5", x.about(2), 5);
         CHECK.due("4: seed 1", x.seed(1), true);
         due("4: X is 9", x.about(2), 9);
         due("4: no step", x.about(5), 0);
@@ -381,7 +384,11 @@ public final class StateTest {
         x.candle(2, 2);
         x.seed(100);
         x.buy(1, 1, 0);
-        due("16: a purchase", x.undo(), 2);
+        x.buy(1, 1, 1);
+        due("16: a purchase", x.undo(), 3);
+        due("16: no owner of inch 1", x.candleOf(1, 11), NONE);
+        due("16: the owner of inch 0 stays", x.candleOf(1, 10), 1);
+        due("16: the one ahead of it", x.undo(), 2);
         due("16: wax as told", x.houseOf(1, 1), 7);
         due("16: no owner", x.candleOf(1, 10), NONE);
         due("16: X is as ahead of it", x.about(2), 405);
@@ -603,6 +610,72 @@ public final class StateTest {
         due("30: a gone text can't be played", x.played(1), OTHER);
         due("30: a new text comes there", x.text(), NONE);
         due("30: a new text", Tape.tell(x, "tears 5;"), 1);
+    }
+
+    private static void promise30BackToAll() {
+        CandleEnds x = island(0, 9);
+        x.candle(2, 4);
+        x.candle(3, 2);
+        x.buy(0, 0, 0);
+        x.buy(1, 0, 2);
+        x.buy(0, 1, 1);
+        x.light(0);
+        x.burn(0);
+        x.burn(0);
+        x.image();
+        x.light(0);
+        x.burn(0);
+        x.buy(1, 1, 0);
+        x.light(1);
+        for (int i = 0; i < 30; i++) {
+            x.moths(1);
+        }
+        CandleEnds y = new CandleEnds();
+        y.image();
+        for (int i = 0; i < 8; i++) {
+            y.house(i, 10 * i);
+        }
+        y.candle(9, 12);
+        y.back();
+        y.house(6, 60);
+        y.candle(4, 5);
+        due("30: told anew", y.houseOf(0, 0), 6);
+        due("30: its thickness", y.candleOf(0, 0), 4);
+        due("30: back", x.back(), 2);
+        int[] house0 = {0, 95, 2, 40};
+        int[] house1 = {9, 98, 0, 0};
+        for (int what = 0; what < 4; what++) {
+            due("30: house 0, " + what, x.houseOf(0, what), house0[what]);
+            due("30: house 1, " + what, x.houseOf(1, what), house1[what]);
+        }
+        int[] whats = {0, 1, 2, 3, 4, 10, 11, 12, 13};
+        int[] candle0 = {2, 4, 2, 1, 2, 0, NONE, 1, NONE};
+        int[] candle1 = {3, 2, 0, NONE, 0, NONE, 0};
+        for (int i = 0; i < whats.length; i++) {
+            due("30: candle 0, " + whats[i], x.candleOf(0, whats[i]), candle0[i]);
+            due("30: candle 1, " + whats[i], x.candleOf(1, whats[i]), i < candle1.length ? candle1[i] : OTHER);
+        }
+        for (int i = 5; i >= 0; i--) {
+            due("30: steps yet", x.undo(), i);
+        }
+        due("30: wax as at first", x.houseOf(0, 1), 100);
+        due("30: no owner", x.candleOf(0, 12), NONE);
+        due("30: nowhere", x.candleOf(0, 3), NONE);
+        x.house(1, 2);
+        x.candle(1, 2);
+        x.back();
+        due("30: the candle told since is gone", x.candleOf(2, 0), OTHER);
+        due("30: the house told since is gone", x.houseOf(2, 0), OTHER);
+        x.candle(7, 3);
+        x.house(3, 33);
+        int[] told = {7, 3, 0, NONE, 0};
+        for (int what = 0; what < told.length; what++) {
+            due("30: a candle told anew, " + what, x.candleOf(2, what), told[what]);
+        }
+        int[] anew = {3, 33, 0, 0};
+        for (int what = 0; what < anew.length; what++) {
+            due("30: a house told anew, " + what, x.houseOf(2, what), anew[what]);
+        }
     }
 
     private static void promise31About() {

@@ -23,6 +23,7 @@ public final class TextTest {
         faultOfName();
         faultOfClauses();
         sums();
+        deepSum();
         names();
         CHECK.close("TextTest");
     }
@@ -185,6 +186,15 @@ public final class TextTest {
         fault("price 1--2;", 0, NONE);
         fault("price (((((((( 1 ))))))));", 0, NONE);
         fault("price --------1;", 0, NONE);
+        fault("zzz", 1, 0);
+        fault("price 1;az", 1, 8);
+        fault("price 1;AZ", 1, 8);
+        fault("price " + "1+".repeat(146) + "1;", 0, NONE);
+        fault("price " + "1+".repeat(146) + "1+", 1, 300);
+        fault("price1;" + " ".repeat(292) + ";", 1, 299);
+        fault("price 1" + "-1".repeat(146) + "*", 1, 300);
+        fault("out" + "1+".repeat(148) + ";", 1, 299);
+        fault("burn0;".repeat(24) + " ".repeat(156), 0, NONE);
         fault("price -(-(-(-(1))))+-(-(-(-(1))));", 0, NONE);
     }
 
@@ -285,6 +295,22 @@ public final class TextTest {
         fault("burn 0;".repeat(23) + "burn 6;burn", 2, 166);
     }
 
+    /** A sum as deep as may be, each level with a sum and a product that wait, and again behind a text with a fault. */
+    private static void deepSum() {
+        CandleEnds x = new CandleEnds();
+        x.house(3, 40);
+        x.candle(7, 12);
+        Tape.tell(x, "price 7+8*(9+1; out");
+        due("its fault", x.fault(0), 1);
+        due("deep", Tape.tell(x, "burns 4;price 1+1*(1+1*(1+1*(1+1*(1+1*(1+1*(1+1*(1+1*(1+2*3))))))));light 0;"), 0);
+        x.by(0);
+        due("deep price", x.says(0, 0, 0, 0), 15);
+        due("burns beside it", x.says(0, 0, 0, 1), 4);
+        due("no tears", x.says(0, 0, 0, 2), 0);
+        due("out that was never told", x.says(0, 0, 0, 3), 3);
+        due("the number of the clause", x.played(0), 2);
+    }
+
     /** What 50 and the sum make of it: price is 0 .. 99, so sums are shown about its middle. */
     private static void sum(String sum, int want) {
         CandleEnds x = new CandleEnds();
@@ -315,6 +341,9 @@ public final class TextTest {
         sum("-(2+3)", -5);
         sum("-2+3", 1);
         sum("9999*9999-9999*100-51", 49);
+        sum("9999*9999-9999*100-99", 1);
+        sum("(0-9999*9999)+9999*100+99", -1);
+        sum("30-2*(1-3*(0+1*(2-1*(2-1*(0+1*(1))))))", 34);
         sum("9999*9999/9999/10", 10);
         sum("9999*9999*9999/9999/10", 10);
         sum("-9999*9999/9999/10", -10);
