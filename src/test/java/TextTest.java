@@ -300,8 +300,10 @@ public final class TextTest {
         CandleEnds x = new CandleEnds();
         x.house(3, 40);
         x.candle(7, 12);
-        Tape.tell(x, "price 7+8*(9+1; out");
-        due("its fault", x.fault(0), 1);
+        for (int i = 0; i < 5; i++) {
+            Tape.tell(x, "out 7; price " + "1+".repeat(120) + "8*(9+1; out");
+            due("its fault", x.fault(0), 1);
+        }
         due("deep", Tape.tell(x, "burns 4;price 1+1*(1+1*(1+1*(1+1*(1+1*(1+1*(1+1*(1+1*(1+2*3))))))));light 0;"), 0);
         x.by(0);
         due("deep price", x.says(0, 0, 0, 0), 15);
