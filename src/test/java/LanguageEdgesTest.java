@@ -15,6 +15,7 @@ public final class LanguageEdgesTest {
         t.bytesOfText();
         t.blanks();
         t.letters();
+        t.everyLetterCounts();
         t.digits();
         t.numbers();
         t.signs();
@@ -48,6 +49,7 @@ public final class LanguageEdgesTest {
         t.tearsBounds();
         t.outBounds();
         t.playedInOrder();
+        t.playedByNumbers();
         t.playedToTheEnd();
         t.playedStays();
         t.edges.close("LanguageEdgesTest");
@@ -146,6 +148,36 @@ public final class LanguageEdgesTest {
         fault("pricE 1;", 1, 0);
         fault("price houseinch;", 1, 6);
         sound("price1;burns2;");
+    }
+
+    private void everyLetterCounts() {
+        edges.sentence("price SUM ; or burns SUM ; or tears SUM ; or out SUM ; (each once) or buy NUMBER of NUMBER for NUMBER ;");
+        String[] sums = {"price", "burns", "tears", "out"};
+        String[] deeds = {"light", "burn", "moths"};
+        String[] names = {"house", "draught", "candle", "thick", "length", "inch", "wax", "debt"};
+        for (String word : sums) {
+            spoilt("", word, " 1;");
+        }
+        for (String word : deeds) {
+            spoilt("", word, " 1;");
+        }
+        for (String word : names) {
+            spoilt("price ", word, ";");
+        }
+        spoilt("", "buy", " 1 of 2 for 3;");
+        spoilt("buy 1 ", "of", " 2 for 3;");
+        spoilt("buy 1 of 2 ", "for", " 3;");
+    }
+
+    /** The text is sound, but not with another letter at any place of the word, one more, or one less. */
+    private void spoilt(String ahead, String word, String behind) {
+        sound(ahead + word + behind);
+        for (int i = 0; i < word.length(); i++) {
+            fault(ahead + word.substring(0, i) + "q" + word.substring(i + 1) + behind, 1, ahead.length());
+        }
+        fault(ahead + word + "q" + behind, 1, ahead.length());
+        fault(ahead + "q" + word + behind, 1, ahead.length());
+        fault(ahead + word.substring(1) + behind, 1, ahead.length());
     }
 
     private void digits() {
@@ -443,6 +475,15 @@ public final class LanguageEdgesTest {
         fault("buy 0 for 0;", 1, 6);
         fault("buy 0 of 0 of 0;", 1, 11);
         fault("buy 0 of 0 for 0 0;", 1, 17);
+        for (String word : new String[] {"price", "burns", "tears", "out", "buy", "light", "burn", "moths", "of", "for"}) {
+            fault("price " + word + ";", 1, 6);
+            fault("price 1 " + word + ";", 1, 8);
+            fault("light " + word + ";", 1, 6);
+        }
+        for (String word : new String[] {"of", "for", "house", "draught", "candle", "thick", "length", "inch", "wax", "debt"}) {
+            fault(word + " 1;", 1, 0);
+            fault("price 1;" + word, 1, 8);
+        }
         fault("\u00ff", 1, 0);
     }
 
@@ -483,6 +524,9 @@ public final class LanguageEdgesTest {
         sound("price -1*-1*-1*-1*-1*-1*-1*-1*-1*-1;");
         sound("price (1)*(1)*(1)*(1)*(1)*(1)*(1)*(1)*(1)*(1);");
         sound("price -(1)+(--(---1));burns ((((((((1))))))));");
+        String each = "1+1*(".repeat(8) + "1+2*3" + ")".repeat(8);
+        due("eight deep, at each a sum and a product wait", law("tears " + each + ";", 2), 15);
+        due("eight deep, less", law("tears 50-2*(" + "1-1*(".repeat(7) + "1-1*2" + ")".repeat(8) + ";", 2), 46);
         due("eight deep", law("tears 1+(1+(1+(1+(1+(1+(1+(1+(1+2*3)))))))) ;", 2), 15);
         due("eight signs", law("tears --------5;", 2), 5);
         due("seven signs", law("tears 50+-------5;", 2), 45);
@@ -500,6 +544,19 @@ public final class LanguageEdgesTest {
         due("in another text it is the first", Tape.tell(x, "price 2;"), 1);
         Tape.tell(x, "out 1; out 1;");
         due("a text with a fault leaves nothing", Tape.tell(x, "out 2;"), 2);
+        for (int i = 0; i < 4; i++) {
+            Tape.tell(x, "out 3;burns 3;price " + "1+".repeat(120) + "(");
+        }
+        due("however long", Tape.tell(x, "tears 4+5;moths 1;"), 3);
+        x.house(2, 0);
+        x.candle(3, 1);
+        x.by(3);
+        int[] says = {3, 30, 9, 2};
+        for (int what = 0; what < 4; what++) {
+            due("the law behind it, " + what, x.says(0, 0, 0, what), says[what]);
+        }
+        due("its clauses", x.played(3), NONE);
+        due("the one step", x.about(5), 1);
     }
 
     private void faultFive() {
@@ -598,6 +655,29 @@ public final class LanguageEdgesTest {
         due("each is a step", x.about(5), 5);
         due("taken back one by one", x.undo(), 4);
         due("the moths took one", x.houseOf(0, 2), 1);
+    }
+
+    private void playedByNumbers() {
+        edges.sentence("its buy, light, burn and moths clauses, in their order, as by hand");
+        CandleEnds x = Isles.of(9, 0, 0, 0, 0, 0, 0, 0, 0);
+        for (int i = 0; i < 6; i++) {
+            x.candle(1, 12);
+        }
+        Tape.tell(x, "buy 11 of 5 for 7;buy 0 of 5 for 6;light 5;burn 5;buy 0 of 3 for 2;light 3;burn 3;moths 30;");
+        due("all is done", x.played(0), NONE);
+        due("the last inch of the last candle has the last house", x.candleOf(5, 21), 7);
+        due("the last candle is where", x.candleOf(5, 3), 6);
+        due("its next", x.candleOf(5, 4), 1);
+        due("candle 3 is where", x.candleOf(3, 3), 2);
+        due("its next", x.candleOf(3, 4), 1);
+        due("no other is lit", x.about(11), 2);
+        int drawn = 5;
+        for (int i = 0; i < 30; i++) {
+            drawn = (drawn * 179 + 83) % 30011;
+        }
+        due("thirty draws", x.about(2), drawn);
+        due("lit already", x.played(Tape.tell(x, "price 1;burn 5;light 5;")), 2);
+        due("burnt once more", x.candleOf(5, 4), 2);
     }
 
     private void playedToTheEnd() {

@@ -43,6 +43,7 @@ public final class WayEdgesTest {
         t.pricesAtTheirEnds();
         t.roundsAndRound();
         t.imageOfAll();
+        t.imageOfWhatBurns();
         t.imageButTheTape();
         t.textsBehindTheImage();
         t.edges.close("WayEdgesTest");
@@ -439,6 +440,9 @@ public final class WayEdgesTest {
         due("all", x.worth(255), 3);
         Isles.owned(x, 1, 0, 0, 0, 0, 0, 0, 0, 0, 0, 0, 0, 0);
         due("twelve of one", x.worth(1), 11);
+        Isles.owned(x, 1, 5, 5);
+        due("the last candle", Isles.owned(x, 1, 5, 5, 5), 5);
+        due("of all six", x.worth(255), 3 + 11 + 1 + 2);
     }
 
     private void worthBurntOrNot() {
@@ -567,27 +571,72 @@ public final class WayEdgesTest {
     private void imageOfAll() {
         edges.sentence("AN IMAGE: all as it is, STEPS as well");
         CandleEnds x = Isles.of(5, 0);
+        int[] xs = new int[34];
         for (int i = 0; i < 33; i++) {
+            xs[i] = x.about(2);
             x.moths(1);
         }
-        int then = x.about(2);
+        xs[33] = x.about(2);
         x.image();
-        for (int i = 0; i < 30; i++) {
-            x.undo();
+        // Thirty steps since stand in the place of each that the image has, seven leave another one the latest.
+        for (int since : new int[] {30, 7}) {
+            for (int i = 0; i < 30; i++) {
+                x.undo();
+            }
+            due("no steps", x.about(5), 0);
+            x.seed(4321);
+            for (int i = 0; i < since; i++) {
+                x.moths(1);
+            }
+            due("back", x.back(), 0);
+            due("all thirty steps again", x.about(5), 30);
+            due("X", x.about(2), xs[33]);
+            for (int i = 29; i >= 0; i--) {
+                due("taken back once more", x.undo(), i);
+                due("X as ahead of that one", x.about(2), xs[3 + i]);
+            }
+            due("no more", x.undo(), NONE);
         }
-        int first = x.about(2);
-        due("no steps", x.about(5), 0);
-        x.moths(9);
-        due("back", x.back(), 0);
-        due("all thirty steps again", x.about(5), 30);
-        due("X", x.about(2), then);
-        for (int i = 29; i >= 0; i--) {
-            due("taken back once more", x.undo(), i);
-        }
-        due("X as ahead of the first of them", x.about(2), first);
-        due("no more", x.undo(), NONE);
         x.back();
         due("the image stays", x.about(5), 30);
+    }
+
+    private void imageOfWhatBurns() {
+        edges.sentence("AN IMAGE: all as it is");
+        CandleEnds x = Isles.of(50, 0, 0);
+        Tape.ruledBy(x, "burns 7; tears 2;");
+        Isles.owned(x, 3, 0, NONE, 1, NONE);
+        x.light(0);
+        Isles.burn(x, 0, 2);
+        x.image();
+        Isles.burn(x, 0, 2);
+        due("all is burnt", x.candleOf(0, 2), 3);
+        for (int i = 0; i < 4; i++) {
+            x.undo();
+        }
+        x.by(NONE);
+        Isles.burn(x, 0, 3);
+        due("another drip is the first", x.drip(0, 3), 30);
+        due("back", x.back(), 2);
+        int[] zero = {0, 51, 3, 14};
+        int[] one = {0, 47, 0, 0};
+        for (int what = 0; what < 4; what++) {
+            due("house 0, " + what, x.houseOf(0, what), zero[what]);
+            due("house 1, " + what, x.houseOf(1, what), one[what]);
+        }
+        int[] candle = {3, 4, 1, 1, 2};
+        for (int what = 0; what < candle.length; what++) {
+            due("candle 0, " + what, x.candleOf(0, what), candle[what]);
+        }
+        for (int i = 0; i < 2; i++) {
+            due("its drip " + i, x.drip(i, 3), 7);
+            due("its tears " + i, x.drip(i, 4), 2);
+            due("its inch " + i, x.drip(i, 1), i);
+        }
+        x.undo();
+        due("where it was", x.candleOf(0, 3), 0);
+        x.back();
+        due("where it is", x.candleOf(0, 3), 1);
     }
 
     private void imageButTheTape() {
