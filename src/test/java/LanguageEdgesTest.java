@@ -111,6 +111,13 @@ public final class LanguageEdgesTest {
         sound("tears 9;" + " ".repeat(292));
         sound(" ".repeat(292) + "tears 9;");
         sound("price " + "-".repeat(7) + "1" + "*1".repeat(142) + ";");
+        for (String sign : new String[] {"(", ")", "-", ";", "$", "<", "7", "x"}) {
+            fault(sign.repeat(300), 1, 0);
+        }
+        fault("price" + "(".repeat(295), 3, 13);
+        fault("price" + "-".repeat(295), 3, 13);
+        fault("price1" + ";".repeat(294), 1, 7);
+        fault("price1" + "*".repeat(294), 1, 7);
         due("the last of 300 counts", law("tears" + " ".repeat(292) + "42;", 2), 42);
         CandleEnds x = new CandleEnds();
         Tape.put(x, " ".repeat(300));
@@ -547,6 +554,7 @@ public final class LanguageEdgesTest {
         for (int i = 0; i < 4; i++) {
             Tape.tell(x, "out 3;burns 3;price " + "1+".repeat(120) + "(");
         }
+        Tape.tell(x, "out 9;price 1+-1 $");
         due("however long", Tape.tell(x, "tears 4+5;moths 1;"), 3);
         x.house(2, 0);
         x.candle(3, 1);
