@@ -4,7 +4,7 @@ import java.util.Arrays;
 import java.util.Comparator;
 import java.util.Random;
 
-/** Calls with arguments from everywhere, in any state: none may throw, and what is refused may change nothing. */
+/** Calls with arguments from everywhere, in any state: none may throw. */
 public final class WildTest {
     private static final int RUNS = 1500;
     private static final int CALLS = 512;
