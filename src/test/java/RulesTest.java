@@ -104,6 +104,7 @@ public final class RulesTest {
             Matcher m = Pattern.compile(forbidden).matcher(bare);
             CHECK.due(forbidden + " stands in the source", m.find(), false);
         }
+        makes(bare);
         String[] lines = text.split("\n");
         int from = 0;
         for (int i = 0; i < lines.length; i++) {
@@ -113,6 +114,15 @@ public final class RulesTest {
             if (lines[i].matches(" {4}( {4})?\\}")) {
                 CHECK.due("lines of '" + lines[from].trim() + "'", i - from < MOST_LINES || lines[i].length() == 5, true);
             }
+        }
+    }
+
+    /** Rows are made as an object is, and by no call: a field's first value, or a slot that the constructor fills. */
+    private static void makes(String bare) {
+        for (String line : bare.split("\n")) {
+            boolean isField = line.matches(" +private final [\\w\\[\\]]+ \\w+ = new .*;");
+            boolean isSlot = line.trim().equals("scripts[i] = new Script();");
+            CHECK.due("'" + line.trim() + "' makes an object", line.contains("new ") && !isField && !isSlot, false);
         }
     }
 }
